@@ -184,6 +184,12 @@ public final class PromiseTests {
         fault("f01,c11,s21,p31,", 15);
         fault("f01,c11,s21,p31,a", 15);
         fault("a59,a59,a59,a59;9", 17);
+        RotaFathers x = new RotaFathers();
+        write(x, "f01,c11;9");
+        x.blank();
+        write(x, "f01,c11");
+        due(4, "fault(), the page was longer once", x.fault(), 7);
+        due(5, "cave(), the page was longer once", x.cave(), STATE);
     }
 
     private static void noCave(String text) {
@@ -256,6 +262,18 @@ public final class PromiseTests {
         due(6, "about(0, 6)", x.about(0, 6), 1);
         due(6, "about(1, 6)", x.about(1, 6), 1);
         due(6, "about(2, 6), a Syrian's too", x.about(2, 6), 1);
+        RotaFathers last = caveWith("f01,f01,f01,f19;9", "-------3");
+        due(6, "about(3, 5)", last.about(3, 5), 128);
+        due(6, "about(3, 7)", last.about(3, 7), 9);
+        last.day();
+        due(6, "about(3, 3)", last.about(3, 3), 9);
+        last.rota(0, 3);
+        last.day();
+        due(6, "about(3, 4)", last.about(3, 4), 2);
+        write(last, "f01,f01,f01,f19;9");
+        last.cave();
+        due(6, "about(3, 3), gone", last.about(3, 3), 0);
+        due(6, "about(3, 4), gone", last.about(3, 4), 0);
         due(6, "about(3, 0)", x.about(3, 0), UNKNOWN);
         due(6, "about(-1, 0)", x.about(-1, 0), UNKNOWN);
         due(6, "about(MAX, 0)", x.about(MAX, 0), UNKNOWN);
@@ -366,6 +384,9 @@ public final class PromiseTests {
         row(9, y, 3, 0, 0, 0, 0, 1);
         RotaFathers z = caveWith("f09,a17;9", "0------1");
         row(9, z, 3, 0, 0, 0, 0, 0, 0, 0, 0);
+        RotaFathers tooHeavy = caveWith("c06,a16;9", "01-----1");
+        row(9, tooHeavy, 2, 9, 9, 0, 0, 0, 0, 0, 11);
+        row(9, tooHeavy, 3, 1, 1, 0, 0, 0, 0, 0, 1);
     }
 
     private static void promise9Who() {
@@ -590,10 +611,10 @@ public final class PromiseTests {
     }
 
     private static void promise16And17() {
-        RotaFathers x = caveWith("f09,p29;5", "01-----0");
+        RotaFathers x = caveWith("f09,p29,a19;5", "01-2---0");
         due(17, "restore(), none kept", x.restore(), STATE);
         x.day();
-        x.found(3, 4);
+        x.found(0, 9);
         due(16, "image()", x.image(), 1);
         long kept = x.digest();
         x.day();
@@ -603,6 +624,7 @@ public final class PromiseTests {
         x.forget();
         x.found(5, 5);
         x.found(6, 6);
+        due(17, "about(2, 3), not as kept", x.about(2, 3), 7 + 11 + 11);
         due(17, "digest() is another", x.digest() == kept ? 1 : 0, 0);
         due(17, "restore()", x.restore(), 1);
         due(17, "digest() as kept", x.digest(), kept);
@@ -616,9 +638,9 @@ public final class PromiseTests {
         x.day();
         due(17, "restore()", x.restore(), 2);
         due(17, "count(5)", x.count(5), 2);
-        write(x, "f09,p29;");
+        write(x, "f09,p29,a19;");
         due(17, "restore() leaves the page", x.restore(), 2);
-        due(17, "count(7)", x.count(7), 8);
+        due(17, "count(7)", x.count(7), 12);
         x.letter('5');
         x.cave();
         due(17, "restore(), a cave of the same text was read", x.restore(), STATE);
