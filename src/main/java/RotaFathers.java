@@ -38,7 +38,6 @@ public final class RotaFathers {
         plan = new int[SHIFTS];
         bestWho = new int[BEST_SHIFTS];
         tally = new int[(SHIFTS + 1) * FIT_VALUES];
-        bestMerit = NONE;
     }
 
     // ---- the cave

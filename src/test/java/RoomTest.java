@@ -3,19 +3,25 @@ import java.lang.management.ManagementFactory;
 
 /** All calls of a run live in one room: no call but cave() makes anything new. */
 public final class RoomTest {
-    private static final int ROUNDS = 400;
+    private static final int OBJECTS = 60;
+    // of some 70 calls each, so that an object is used for no more than 512
+    private static final int ROUNDS_EACH = 7;
+    private static final int ROUNDS = OBJECTS * ROUNDS_EACH;
     // what the machine itself may make while it warms up
     private static final long SLACK = 64 * 1024;
 
     public static void main(String[] args) {
         ThreadMXBean bean = (ThreadMXBean) ManagementFactory.getThreadMXBean();
         long id = Thread.currentThread().getId();
-        RotaFathers x = new RotaFathers();
-        useAll(x);
+        useAll(new RotaFathers());
+        RotaFathers[] all = new RotaFathers[OBJECTS];
+        for (int i = 0; i < OBJECTS; i++) {
+            all[i] = new RotaFathers();
+        }
         long before = bean.getThreadAllocatedBytes(id);
         long sum = 0;
         for (int round = 0; round < ROUNDS; round++) {
-            sum += useAll(x);
+            sum += useAll(all[round % OBJECTS]);
         }
         long made = bean.getThreadAllocatedBytes(id) - before;
         long fathers = ROUNDS * 4L * 32;
