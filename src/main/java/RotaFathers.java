@@ -310,11 +310,12 @@ public final class RotaFathers {
     }
 
     private TrialDay nextDay() {
-        return tryOut(now.rota);
+        trial.live(fathers, now.rota, now.fit, now.known);
+        return trial;
     }
 
-    private TrialDay tryOut(int[] rota) {
-        trial.live(fathers, rota, now.fit, now.known);
+    private TrialDay plannedDay() {
+        trial.live(fathers, plan, now.fit, now.known);
         return trial;
     }
 
@@ -359,7 +360,7 @@ public final class RotaFathers {
     }
 
     private void weighPlan(int shift, int fit) {
-        TrialDay tried = tryOut(plan);
+        TrialDay tried = plannedDay();
         if (at(tried.fitAhead, SHIFTS) < fit || tried.merit <= bestMerit) {
             return;
         }
@@ -378,7 +379,7 @@ public final class RotaFathers {
         }
         put(plan, one, elsewhere);
         put(plan, other, there);
-        int merit = tryOut(plan).merit;
+        int merit = plannedDay().merit;
         put(plan, one, there);
         put(plan, other, elsewhere);
         return merit;
@@ -597,7 +598,7 @@ public final class RotaFathers {
 
         void add(int code) {
             if (length < codes.length) {
-                codes[length] = code;
+                put(codes, length, code);
                 length++;
             }
         }
